@@ -94,7 +94,8 @@ public final class ConceptMarker {
 
     /** Returns how many links a map holds, those that it has included. */
     public int held(int map) throws IndexOutOfBoundsException {
-        holding.becomeAllHeldBy(mapAt(map).own, chains);
+        holding.become(mapAt(map).own);
+        holding.addAllImplied(chains);
         return holding.count();
     }
 
@@ -103,7 +104,8 @@ public final class ConceptMarker {
             throws IndexOutOfBoundsException, IllegalArgumentException {
         ConceptMap asked = mapAt(map);
         requireLink(asked, from, to, kind);
-        holding.becomeAllHeldBy(asked.own, chains);
+        holding.become(asked.own);
+        holding.addAllImplied(chains);
         return holding.contains(from, to, kind);
     }
 
@@ -111,7 +113,8 @@ public final class ConceptMarker {
 
     /** Returns the points of the best matching to a model. */
     public int points(int model) throws IndexOutOfBoundsException {
-        return matchWith(modelAt(model));
+        prepareMatching(modelAt(model));
+        return matching.findBest(NONE);
     }
 
     /** Returns the same as points, found by trying all matchings. */
@@ -129,9 +132,9 @@ public final class ConceptMarker {
     public int bestModel() {
         int best = NONE;
         int greatest = NONE;
-        for (int model = PUPIL + 1; model < MAPS; model++) {
-            ConceptMap marked = modelAt(model);
-            int mark = marked.own.count() == 0 ? NONE : markOf(marked);
+        for (int model = PUPIL + 1; model < maps.length; model++) {
+            ConceptMap marked = maps[model];
+            int mark = marked == null || marked.own.count() == 0 ? NONE : markOf(marked);
             if (mark > greatest) {
                 greatest = mark;
                 best = model;
@@ -144,7 +147,8 @@ public final class ConceptMarker {
     public int matchOf(int model, int idea) throws IndexOutOfBoundsException {
         ConceptMap matched = modelAt(model);
         requireIdea(pupil, idea);
-        matchWith(matched);
+        prepareMatching(matched);
+        matching.findBest(NONE);
         return matching.best.get(idea);
     }
 
@@ -156,7 +160,8 @@ public final class ConceptMarker {
         if (!judged.own.contains(from, to, kind)) {
             throw new IllegalStateException("the model does not have the link");
         }
-        matchWith(judged);
+        prepareMatching(judged);
+        matching.findBest(NONE);
         int pupilFrom = matching.pupilIdeaFor(from);
         int pupilTo = matching.pupilIdeaFor(to);
         if (pupilFrom == NONE || pupilTo == NONE) {
@@ -169,7 +174,8 @@ public final class ConceptMarker {
     /** Returns how many ideas of a model the best matching gives to no idea of the pupil. */
     public int lacking(int model) throws IndexOutOfBoundsException {
         ConceptMap matched = modelAt(model);
-        matchWith(matched);
+        prepareMatching(matched);
+        matching.findBest(NONE);
         int lacking = 0;
         for (int idea = 0; idea < matched.size; idea++) {
             if (matching.pupilIdeaFor(idea) == NONE) {
@@ -237,26 +243,27 @@ public final class ConceptMarker {
 
     // ---- how marks are found
 
+    /** Lets 'holding' be what the pupil's map holds, and 'matching' be ready for a search. */
     private void prepareMatching(ConceptMap model) {
-        holding.becomeAllHeldBy(pupil.own, chains);
+        holding.become(pupil.own);
+        holding.addAllImplied(chains);
         matching.takeIdeas(pupil, model, thesaurus);
         matching.takeLinks(pupil.own, holding, model.own);
     }
 
-    /** Leaves the best matching to the model in 'matching'; returns its points. */
-    private int matchWith(ConceptMap model) {
-        prepareMatching(model);
-        return matching.findBest(NONE);
-    }
-
     private int markOf(ConceptMap model) {
         int most = POINTS_FOR_HELD * model.own.count();
-        return most <= 0 ? 0 : 100 * matchWith(model) / most;
+        if (most <= 0) {
+            return 0;
+        }
+        prepareMatching(model);
+        return 100 * matching.findBest(NONE) / most;
     }
 
     /** Leaves the link that would add most, and how much, in 'bestLink' and 'bestGain'. */
     private void findBestLink(ConceptMap model) {
-        int before = matchWith(model);
+        prepareMatching(model);
+        int before = matching.findBest(NONE);
         bestLink = NONE;
         bestGain = 0;
         for (int from = 0; from < pupil.size; from++) {
@@ -439,11 +446,6 @@ public final class ConceptMarker {
 
         void become(LinkSet other) {
             kinds.become(other.kinds);
-        }
-
-        void becomeAllHeldBy(LinkSet own, Chains chains) {
-            become(own);
-            addAllImplied(chains);
         }
 
         void addAllImplied(Chains chains) {

@@ -17,6 +17,7 @@ public final class MapsTest {
         promise9Held();
         promise10Holds();
         promise10HoldsOnlyOverDifferentIdeas();
+        promise10HoldsSeveralKinds();
         checks.end("MapsTest");
     }
 
@@ -298,5 +299,22 @@ public final class MapsTest {
         checks.due("over another idea", true, () -> x.holds(0, 0, 2, 1));
         checks.due("and from that one", true, () -> x.holds(0, 1, 2, 1));
         checks.due("and no more", 5, () -> x.held(0));
+    }
+
+    private static void promise10HoldsSeveralKinds() {
+        ConceptMarker x = Examples.twins(0, 1, 2, 3, 4);
+        Examples.addLinks(x, 0, 40, 43, 412, 410);
+        x.chain(0, 2, 1);
+        x.chain(3, 0, 0);
+        x.chain(3, 2, 1);
+        checks.due("over the last idea, by two chains", true, () -> x.holds(0, 0, 1, 1));
+        checks.due("over the same idea another kind", true, () -> x.holds(0, 0, 1, 0));
+        checks.due("and no third one", false, () -> x.holds(0, 0, 1, 2));
+        checks.due("held in all", 6, () -> x.held(0));
+        x.chain(0, 2, -1);
+        checks.due("one of the two chains is left", true, () -> x.holds(0, 0, 1, 1));
+        x.chain(3, 2, -1);
+        checks.due("none of them is left", false, () -> x.holds(0, 0, 1, 1));
+        checks.due("the other kind stays", true, () -> x.holds(0, 0, 1, 0));
     }
 }

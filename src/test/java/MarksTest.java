@@ -14,6 +14,7 @@ public final class MarksTest {
         promise15MatchOf();
         promise15MatchOfOfSeveral();
         promise16Verdict();
+        promise16VerdictOfIdeasThatAreLacking();
         promise16VerdictRefusals();
         promise17Lacking();
         promise18Hint();
@@ -97,6 +98,19 @@ public final class MarksTest {
         Examples.addLinks(few, 2, 100);
         checks.due("an idea left out for a later one, by trying", 4, () -> few.pointsByTrying(2));
         checks.due("of a model without ideas, by trying", 0, () -> few.pointsByTrying(1));
+        ConceptMarker fan = Examples.twins(5, 5, 5);
+        Examples.addLinks(fan, 1, 10);
+        Examples.addLinks(fan, 0, 10, 20);
+        checks.due("an idea is given to one alone, by trying", 4, () -> fan.pointsByTrying(1));
+        ConceptMarker unlike = new ConceptMarker();
+        Examples.addIdeas(unlike, 0, 5, 6);
+        Examples.addIdeas(unlike, 1, 5, 7);
+        Examples.addLinks(unlike, 0, 10);
+        Examples.addLinks(unlike, 1, 10);
+        Examples.addIdeas(unlike, 2, 5, 6);
+        Examples.addLinks(unlike, 2, 10);
+        checks.due("a model of the same words, by trying", 4, () -> unlike.pointsByTrying(2));
+        checks.due("only ideas that are alike, by trying", 0, () -> unlike.pointsByTrying(1));
         ConceptMarker none = new ConceptMarker();
         Examples.addIdeas(none, 3, 5, 6);
         Examples.addLinks(none, 3, 10);
@@ -215,6 +229,9 @@ public final class MarksTest {
         checks.due("a link that is implied", 3, () -> x.verdict(1, 2, 1, 2));
         x.link(0, 0, 1, 0);
         checks.due("no more implied", 0, () -> x.verdict(1, 2, 1, 2));
+        x.link(0, 0, 1, 0);
+        x.chain(0, 0, 3);
+        checks.due("a wrong kind that is only implied", 0, () -> x.verdict(1, 2, 1, 2));
         ConceptMarker gone = new ConceptMarker();
         Examples.addIdeas(gone, 0, 1);
         Examples.addIdeas(gone, 2, 0, 1);
@@ -228,6 +245,19 @@ public final class MarksTest {
         Examples.addLinks(turned, 3, 100, 10);
         checks.due("the pupil's ideas have other numbers", 3, () -> turned.verdict(3, 1, 0, 0));
         checks.due("and its link is reversed for the other one", 1, () -> turned.verdict(3, 0, 1, 0));
+    }
+
+    private static void promise16VerdictOfIdeasThatAreLacking() {
+        ConceptMarker x = new ConceptMarker();
+        Examples.addIdeas(x, 0, 10, 11, 12, 13, 14);
+        Examples.addLinks(x, 0, 42, 402);
+        Examples.addIdeas(x, 1, 11, 20, 10);
+        Examples.addLinks(x, 1, 12, 102, 212, 122);
+        checks.due("the pupil's idea 1 has the first one", 0, () -> x.matchOf(1, 1));
+        checks.due("from 1 to none", 0, () -> x.verdict(1, 0, 1, 2));
+        checks.due("from none to 1", 0, () -> x.verdict(1, 1, 0, 2));
+        checks.due("from 0 to none", 0, () -> x.verdict(1, 2, 1, 2));
+        checks.due("from none to 0", 0, () -> x.verdict(1, 1, 2, 2));
     }
 
     private static void promise16VerdictRefusals() {
@@ -299,6 +329,14 @@ public final class MarksTest {
         ConceptMarker high = Examples.twins(0, 1, 2, 3, 4);
         Examples.addLinks(high, 1, 433);
         checks.due("the highest link", 433, () -> high.hint(1));
+        ConceptMarker small = new ConceptMarker();
+        Examples.addIdeas(small, 0, 0, 1, 2, 3, 4);
+        Examples.addIdeas(small, 1, 4, 3);
+        Examples.addLinks(small, 1, 10);
+        checks.due("from an idea that the model has no number for", 430, () -> small.hint(1));
+        small.link(1, 0, 1, 0);
+        Examples.addLinks(small, 1, 100);
+        checks.due("to an idea that the model has no number for", 340, () -> small.hint(1));
     }
 
     private static void promise18HintOfSeveral() {
@@ -334,6 +372,11 @@ public final class MarksTest {
         x.link(1, 2, 3, 0);
         checks.due("even if the model does not have it", 120, () -> x.hint(1));
         checks.due("adds what it implies", 12, () -> x.gain(1));
+        ConceptMarker only = Examples.twins(0, 1, 2);
+        only.chain(0, 0, 1);
+        Examples.addLinks(only, 0, 10, 120);
+        Examples.addLinks(only, 1, 22, 13);
+        checks.due("a wrong kind that is only held stays worth nothing", 22, () -> only.hint(1));
         ConceptMarker held = Examples.twins(0, 1, 2);
         held.chain(0, 0, 1);
         Examples.addLinks(held, 0, 10, 120);
