@@ -35,6 +35,8 @@ public final class MarkEdgesTest {
         marksOfFullMaps();
         marksOfFullMapsOfOneWord();
         marksChangeNothing();
+        marksAfterThoseOfAnotherModel();
+        marksAfterThoseOfLargerMaps();
     }
 
     private static void promises11And12() {
@@ -47,6 +49,7 @@ public final class MarkEdgesTest {
         pointsOfWhatTheModelOnlyHolds();
         pointsOfAllLinks();
         pointsWithDifferentOnesForDifferentIdeas();
+        pointsOfNoneForTheRest();
         pointsOfTheBestOfAllMatchings();
     }
 
@@ -93,6 +96,7 @@ public final class MarkEdgesTest {
     private static void promises18And19() {
         hintIsTheOnlyLink();
         hintInThePupilsNumbers();
+        hintFromAndToAnyOfThePupils();
         hintIsTheLowestOfTwo();
         hintIsTheGreatest();
         hintOfAMapThatLacksOne();
@@ -279,6 +283,65 @@ public final class MarkEdgesTest {
         }
     }
 
+    /** "MISSING, if one of both ideas of the model is given to no idea": whatever was asked before */
+    private static void marksAfterThoseOfAnotherModel() {
+        Edges.Call[] before = {
+            x -> x.points(2), x -> x.pointsByTrying(2), x -> x.mark(2), x -> x.bestModel(),
+            x -> x.matchOf(2, 0), x -> x.lacking(2), x -> x.hint(2), x -> x.gain(2),
+            x -> x.verdict(2, 0, 1, 0)};
+        for (Edges.Call call : before) {
+            ConceptMarker x = new ConceptMarker();
+            Examples.addIdeas(x, 0, 0, 1);
+            Examples.addIdeas(x, 1, 2, 3);
+            Examples.addIdeas(x, 2, 0, 1);
+            for (int map = 0; map < 3; map++) {
+                Examples.addLinks(x, map, 10);
+            }
+            Checks.answerOf(() -> call.on(x));
+            checks.due("verdict of a model of other words", 0, () -> x.verdict(1, 0, 1, 0));
+            Checks.answerOf(() -> call.on(x));
+            checks.due("lacking of a model of other words", 2, () -> x.lacking(1));
+            Checks.answerOf(() -> call.on(x));
+            dueMatching("a model of other words", x, 1, -1, -1);
+            Checks.answerOf(() -> call.on(x));
+            duePoints("a model of other words", 0, x, 1);
+            Checks.answerOf(() -> call.on(x));
+            dueHint("a model of other words", -1, 0, x, 1);
+        }
+    }
+
+    /** "Takes all ideas and links of a map away.": also for what is asked before and after it */
+    private static void marksAfterThoseOfLargerMaps() {
+        for (int size = 0; size <= 5; size++) {
+            marksAfterFullMaps(size, 5);
+            marksAfterFullMaps(5, size);
+        }
+    }
+
+    private static void marksAfterFullMaps(int pupils, int models) {
+        ConceptMarker x = Examples.twins(0, 0, 0, 0, 0);
+        for (int link : ALL_LINKS) {
+            if (link % 10 < 2) {
+                Examples.addLinks(x, 0, link);
+                Examples.addLinks(x, 1, link);
+            }
+        }
+        duePoints("full maps of two kinds", 160, x, 1);
+        dueHint("full maps of two kinds", -1, 0, x, 1);
+        x.clear(0);
+        x.clear(1);
+        ConceptMarker untouched = new ConceptMarker();
+        for (ConceptMarker one : new ConceptMarker[] {x, untouched}) {
+            for (int idea = 0; idea < 5; idea++) {
+                Examples.addIdeas(one, 0, idea < pupils ? new int[] {0} : new int[0]);
+                Examples.addIdeas(one, 1, idea < models ? new int[] {0} : new int[0]);
+            }
+            Examples.addLinks(one, 0, pupils < 2 ? new int[0] : new int[] {100});
+            Examples.addLinks(one, 1, models < 2 ? new int[0] : new int[] {11});
+        }
+        edges.sameShown("maps of " + pupils + " and " + models + " after full ones", untouched, x);
+    }
+
     // ---- promises 11 and 12
 
     /** "HELD, if the pupil's map holds that link: 4 points" */
@@ -418,23 +481,26 @@ public final class MarkEdgesTest {
         duePoints("two held, six of a wrong kind", 20, same, 1);
     }
 
-    /** "different ones to different ideas" */
+    /** "different ones to different ideas": one link of the model is held once, by the whole fan */
     private static void pointsWithDifferentOnesForDifferentIdeas() {
-        for (int size = 1; size <= 5; size++) {
-            ConceptMarker x = new ConceptMarker();
-            Examples.addIdeas(x, 0, new int[] {6});
-            Examples.addIdeas(x, 1, new int[] {6, 6, 6, 6, 6});
-            for (int idea = 1; idea < size; idea++) {
-                x.addIdea(0, 6);
-                x.link(0, 0, idea, 2);
+        for (int middle = 0; middle < 5; middle++) {
+            for (int link : ALL_LINKS) {
+                ConceptMarker x = Examples.twins(6, 6, 6, 6, 6);
+                Edges.toggle(x, 1, link);
+                for (int idea = 0; idea < 5; idea++) {
+                    if (idea != middle) {
+                        x.link(0, middle, idea, link % 10);
+                    }
+                }
+                duePoints(link + " and a fan from " + middle, 4, x, 1);
+                for (int idea = 0; idea < 5; idea++) {
+                    if (idea != middle) {
+                        x.link(0, middle, idea, link % 10);
+                        x.link(0, idea, middle, link % 10);
+                    }
+                }
+                duePoints(link + " and a fan to " + middle, 4, x, 1);
             }
-            x.link(1, 3, 2, 2);
-            duePoints("one link and a fan of " + (size - 1), size == 1 ? 0 : 4, x, 1);
-            x.link(1, 3, 0, 2);
-            duePoints("two links and a fan of " + (size - 1), Math.min(2, size - 1) * 4, x, 1);
-            x.link(1, 4, 0, 2);
-            int shared = size == 1 ? 0 : size == 2 ? 4 : 8;
-            duePoints("a third link to the same one and a fan of " + (size - 1), shared, x, 1);
         }
         ConceptMarker one = new ConceptMarker();
         Examples.addIdeas(one, 0, 6, 6, 6, 6, 6);
@@ -442,6 +508,27 @@ public final class MarkEdgesTest {
         Examples.addLinks(one, 0, Edges.all(ALL_LINKS));
         duePoints("a model of one idea", 0, one, 1);
         checks.due("of which none is lacking", 0, () -> one.lacking(1));
+    }
+
+    /** "gives some of the pupil's ideas": those that are given none bring no points */
+    private static void pointsOfNoneForTheRest() {
+        ConceptMarker x = Examples.twins(6, 6, 6, 6, 6);
+        Examples.addLinks(x, 0, 10, 20, 30, 231, 341);
+        Examples.addLinks(x, 1, 400, 410, 420, 11, 121);
+        duePoints("three from one idea and a path of two, shifted", 16, x, 1);
+        dueMatching("three from one idea and a path of two, shifted", x, 1, 4, 0, 1, 2, 3);
+        for (int link : ALL_LINKS) {
+            ConceptMarker few = new ConceptMarker();
+            Examples.addIdeas(few, 0, 6, 6, 6, 6, 6);
+            Examples.addIdeas(few, 1, 6, 6);
+            Edges.toggle(few, 0, link);
+            Examples.addLinks(few, 1, 10 + link % 10);
+            int[] due = {-1, -1, -1, -1, -1};
+            due[link / 100] = 0;
+            due[link / 10 % 10] = 1;
+            duePoints(link + " and a model of two ideas", 4, few, 1);
+            dueMatching(link + " and a model of two ideas", few, 1, due);
+        }
     }
 
     /** "The best matching is the one with the most points": also the last one that can be tried */
@@ -1001,6 +1088,22 @@ public final class MarkEdgesTest {
         }
     }
 
+    /** "the idea from"; "the idea to": any two of the pupil's, also where the model has only two */
+    private static void hintFromAndToAnyOfThePupils() {
+        for (int link : ALL_LINKS) {
+            ConceptMarker x = new ConceptMarker();
+            Examples.addIdeas(x, 0, 0, 1, 2, 3, 4);
+            Examples.addIdeas(x, 3, link / 100, link / 10 % 10);
+            Examples.addLinks(x, 3, 10 + link % 10);
+            dueHint("a model of two ideas, " + link, link, 4, x, 3);
+            ConceptMarker small = new ConceptMarker();
+            Examples.addIdeas(small, 0, link / 100, link / 10 % 10);
+            Examples.addIdeas(small, 3, 0, 1, 2, 3, 4);
+            Edges.toggle(small, 3, link);
+            dueHint("a pupil's map of two ideas, " + link, 10 + link % 10, 4, small, 3);
+        }
+    }
+
     /** "of several that of the lowest idea from, then of the lowest idea to, then of the lowest kind" */
     private static void hintIsTheLowestOfTwo() {
         for (int low : ALL_LINKS) {
@@ -1151,10 +1254,10 @@ public final class MarkEdgesTest {
         }
         checks.due("call 511", 1, () -> x.links(0));
         ConceptMarker full = Edges.full(0);
-        for (int call = 0; call < 490; call++) {
+        for (int call = 0; call < 100; call++) {
             checks.throwsState("a refused call", () -> full.addIdea(0, 0));
         }
-        edges.sameShown("after 490 refused calls", Edges.full(0), full);
+        edges.sameShown("after 100 refused calls", Edges.full(0), full);
     }
 
     /** The same where each call is one of those that try most. */

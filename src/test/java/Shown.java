@@ -10,6 +10,7 @@ final class Shown {
 
     private final ConceptMarker marker;
     private final StringBuilder text = new StringBuilder();
+    private final int[] sizes = new int[4];
     private int calls = 0;
 
     private Shown(ConceptMarker marker) {
@@ -47,10 +48,10 @@ final class Shown {
     }
 
     private void map(int map) {
-        add("ideas" + map, () -> marker.ideas(map));
+        add("ideas" + map, () -> sizes[map] = marker.ideas(map));
         add("links" + map, () -> marker.links(map));
         add("held" + map, () -> marker.held(map));
-        for (int link : Edges.linksOf(marker.ideas(map))) {
+        for (int link : Edges.linksOf(sizes[map])) {
             add("holds" + map + "." + link, () -> marker.holds(map, link / 100, link / 10 % 10, link % 10));
         }
     }
@@ -62,11 +63,11 @@ final class Shown {
         add("lacking" + model, () -> marker.lacking(model));
         add("hint" + model, () -> marker.hint(model));
         add("gain" + model, () -> marker.gain(model));
-        for (int idea = 0; idea < marker.ideas(0); idea++) {
+        for (int idea = 0; idea < sizes[0]; idea++) {
             int asked = idea;
             add("match" + model + "." + asked, () -> marker.matchOf(model, asked));
         }
-        for (int link : Edges.linksOf(marker.ideas(model))) {
+        for (int link : Edges.linksOf(sizes[model])) {
             add("verdict" + model + "." + link,
                     () -> marker.verdict(model, link / 100, link / 10 % 10, link % 10));
         }
