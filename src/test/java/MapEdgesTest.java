@@ -890,6 +890,7 @@ public final class MapEdgesTest {
 
     /** "if both ideas are the same" */
     private static void holdsRefusesTheSameIdea() {
+        edges.refused("holds of 2 and itself", Edges.ARGUMENT, x -> x.holds(0, 2, 2, 0));
         for (int map = 0; map < 4; map++) {
             ConceptMarker x = Edges.full(map);
             for (int idea = 0; idea < 5; idea++) {
