@@ -1,10 +1,17 @@
+import java.io.IOException;
 import java.lang.reflect.Constructor;
 import java.lang.reflect.Field;
 import java.lang.reflect.Method;
 import java.lang.reflect.Modifier;
+import java.nio.file.Files;
+import java.nio.file.Path;
+import java.util.ArrayList;
 import java.util.Arrays;
+import java.util.List;
 import java.util.Set;
 import java.util.TreeSet;
+import java.util.regex.Matcher;
+import java.util.regex.Pattern;
 
 /** The public face: constants, constructor and methods as the document has them, and no others. */
 public final class FaceTest {
@@ -37,14 +44,23 @@ public final class FaceTest {
         "public static final int ConceptMarker.WRONG_KIND",
         "public static final int ConceptMarker.HELD",
     };
+    private static final String[] ORDER = {
+        "ConceptMarker",
+        "---- maps", "addIdea", "link", "clear", "synonyms", "chain", "ideas", "links", "held", "holds",
+        "---- marks", "points", "pointsByTrying", "mark", "bestModel", "matchOf", "verdict", "lacking",
+        "hint", "gain"};
+    private static final Pattern HEADING_OR_CALL =
+            Pattern.compile("(?m)^    // (---- ma.*)$|^    public (?:int |boolean |)(\\w+)\\(");
     private static final Checks checks = new Checks();
 
     private FaceTest() {
     }
 
-    public static void main(String[] args) {
+    public static void main(String[] args) throws IOException {
         checks.due("the class", CLASS, () -> ConceptMarker.class.toGenericString());
         checks.due("the face", new TreeSet<>(Arrays.asList(FACE)), FaceTest::faceFound);
+        String source = Files.readString(Path.of("src/main/java/ConceptMarker.java"));
+        checks.due("the order of calls and headings", Arrays.asList(ORDER), () -> orderFound(source));
         checks.due("NONE", -1, () -> ConceptMarker.NONE);
         checks.due("MISSING", 0, () -> ConceptMarker.MISSING);
         checks.due("REVERSED", 1, () -> ConceptMarker.REVERSED);
@@ -55,6 +71,16 @@ public final class FaceTest {
                     () -> (inside.getModifiers() & (Modifier.PUBLIC | Modifier.PROTECTED)) != 0);
         }
         checks.end("FaceTest");
+    }
+
+    /** "Ahead of the calls ... the interface says: ---- maps.", and ---- marks. */
+    private static List<String> orderFound(String source) {
+        List<String> found = new ArrayList<>();
+        Matcher matcher = HEADING_OR_CALL.matcher(source);
+        while (matcher.find()) {
+            found.add(matcher.group(1) == null ? matcher.group(2) : matcher.group(1));
+        }
+        return found;
     }
 
     /** All that is not private. */
